@@ -1051,21 +1051,20 @@ public final class NineBoards {
 
         private void readJoin() {
             advance();
-            int one = readFreeGate(NONE);
-            int other = readFreeGate(one);
-            if (fault == 0 && one >= 0 && other >= 0) {
+            int here = start;
+            int one = readGateName();
+            if (one != NONE && lake.gates.joined[one] != NONE) {
+                fail(NO_NAME, here);
+            }
+            here = start;
+            int other = readGateName();
+            if (other != NONE && (other == one || lake.gates.joined[other] != NONE)) {
+                fail(NO_NAME, here);
+            }
+            if (fault == 0 && one != NONE && other != NONE) {
                 lake.gates.joined[one] = other;
                 lake.gates.joined[other] = one;
             }
-        }
-
-        private int readFreeGate(int taken) {
-            int here = start;
-            int gate = readGateName();
-            if (gate >= 0 && (gate == taken || lake.gates.joined[gate] != NONE)) {
-                fail(NO_NAME, here);
-            }
-            return gate;
         }
 
         private void readVillage() {
@@ -1351,25 +1350,27 @@ public final class NineBoards {
                 return;
             }
             sign = text.data[at];
-            sort = isLetter(sign) ? WORD : isDigit(sign) ? NUMBER : SIGN;
-            if (sort == SIGN || needsBlank && at == from) {
-                // A letter or digit without its blank is taken as a sign, and no text goes on with it.
-                sort = SIGN;
+            // A letter or digit without its blank is taken as a sign: no text goes on with it.
+            sort = needsBlank && at == from ? SIGN : sortOf(sign);
+            at++;
+            while (at < stop && sort != SIGN && sortOf(text.data[at]) == sort) {
                 at++;
-            } else if (sort == WORD) {
-                scanWord(stop);
-            } else {
-                scanNumber(stop);
+            }
+            if (sort == WORD) {
+                knowWord();
+            } else if (sort == NUMBER) {
+                knowNumber();
             }
         }
 
-        private void scanWord(int stop) {
+        private static int sortOf(int c) {
+            return c >= 'a' && c <= 'z' ? WORD : c >= '0' && c <= '9' ? NUMBER : SIGN;
+        }
+
+        private void knowWord() {
             letters = 0;
-            while (at < stop && isLetter(text.data[at])) {
-                if (at - start < MOST_PACKED) {
-                    letters |= (long) (text.data[at] - 'a' + 1) << (LETTER_BITS * (at - start));
-                }
-                at++;
+            for (int k = start; k < at && k < start + MOST_PACKED; k++) {
+                letters |= (long) (text.data[k] - 'a' + 1) << (LETTER_BITS * (k - start));
             }
             word = NONE;
             for (int k = 0; k < OWN_WORDS_COUNT; k++) {
@@ -1379,22 +1380,11 @@ public final class NineBoards {
             }
         }
 
-        private void scanNumber(int stop) {
+        private void knowNumber() {
             number = 0;
-            while (at < stop && isDigit(text.data[at])) {
-                if (at - start < MOST_DIGITS) {
-                    number = 10 * number + text.data[at] - '0';
-                }
-                at++;
+            for (int k = start; k < at && k < start + MOST_DIGITS; k++) {
+                number = 10 * number + text.data[k] - '0';
             }
-        }
-
-        private static boolean isLetter(int c) {
-            return c >= 'a' && c <= 'z';
-        }
-
-        private static boolean isDigit(int c) {
-            return c >= '0' && c <= '9';
         }
     }
 

@@ -145,13 +145,13 @@ final class Texts {
     }
 
     private void part() {
-        int sort = upTo(inside >= 5 ? 5 : 9);
+        int sort = inside >= 5 ? upTo(5) : inside > 0 ? upTo(6) : upTo(8);
         if (sort <= 2) {
             add(upTo(3) == 0 ? upTo(9999) : upTo(40));
         } else if (sort <= 5) {
             add(new String[] {"day", "level", "water"}[sort - 3]);
         } else {
-            boolean pair = sort <= 7;
+            boolean pair = upTo(1) == 0;
             add(pair ? upTo(1) == 0 ? "min" : "max" : "", "(");
             inside++;
             sum();
@@ -208,9 +208,18 @@ final class Texts {
         for (int times = upTo(9) == 0 ? 3 : 1; times > 0; times--) {
             int at = upTo(b.length());
             String piece = upTo(1) == 0 ? WORDS[upTo(WORDS.length - 1)] : BITS[upTo(BITS.length - 1)];
-            switch (upTo(5)) {
+            switch (upTo(8)) {
                 case 0:
                     b.setLength(at);
+                    break;
+                case 5:
+                    numberInstead(b, at);
+                    break;
+                case 6:
+                    deep(b);
+                    break;
+                case 7:
+                    nameInstead(b, at);
                     break;
                 case 1:
                     b.insert(at, piece);
@@ -230,6 +239,44 @@ final class Texts {
             }
         }
         return b.toString();
+    }
+
+    private void numberInstead(StringBuilder b, int at) {
+        int from = at;
+        while (from < b.length() && !Character.isDigit(b.charAt(from))) {
+            from++;
+        }
+        int to = from;
+        while (to < b.length() && Character.isDigit(b.charAt(to))) {
+            to++;
+        }
+        int[] most = {3, 25, 110, 1100, 9999, 99999};
+        b.replace(from, to, String.valueOf(upTo(most[upTo(5)])));
+    }
+
+    /** A word is put again where another stands. */
+    private void nameInstead(StringBuilder b, int at) {
+        String[] pieces = b.toString().split("[^a-z]+");
+        wordInstead(b, at, pieces.length > 0 ? pieces[upTo(pieces.length - 1)] : "a");
+    }
+
+    /** A rule with about as many open at once as may be. */
+    private void deep(StringBuilder b) {
+        StringBuilder ends = new StringBuilder();
+        b.append("rain 1 when ");
+        int facts = upTo(7);
+        for (int k = 0; k < facts; k++) {
+            boolean not = upTo(1) == 0;
+            b.append(not ? "not " : "[");
+            ends.insert(0, not ? "" : "]");
+        }
+        StringBuilder sums = new StringBuilder();
+        for (int k = 4 + upTo(3) - facts; k > 0; k--) {
+            int sort = upTo(2);
+            b.append(sort == 0 ? "(" : sort == 1 ? "min(" : "max(day,");
+            sums.insert(0, sort == 1 ? ",level)" : ")");
+        }
+        b.append("water").append(sums).append(upTo(1) == 0 ? "<(3)" : "=0").append(ends).append(';');
     }
 
     private void wordInstead(StringBuilder b, int at, String piece) {
