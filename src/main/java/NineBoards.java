@@ -651,8 +651,7 @@ public final class NineBoards {
                 case LEAKS:
                     return boardsThere > 0 && level > 0 ? flow + from[gate] : flow;
                 case STEPS:
-                    int step = from[gate];
-                    return step > 0 ? head / step * step * width[gate] : 0;
+                    return from[gate] > 0 ? head / from[gate] * from[gate] * width[gate] : 0;
                 case FROZEN:
                     return day >= from[gate] && day <= to[gate] ? 0 : flow;
                 default:
@@ -1564,7 +1563,7 @@ public final class NineBoards {
         }
 
         /** Rows of so many ACTS; the state is afterwards as it was. */
-        static int countRows(Lake lake, State s, int left) {
+        private static int countRows(Lake lake, State s, int left) {
             if (left <= 0) {
                 return 1;
             }

@@ -223,6 +223,7 @@ public final class TextTest {
         bad(4, LAKE + "rain 1 when not [not [not [min^(1,2)=1]]];");
         good(LAKE + "rain 1 when not [not [not [1=1]]] and not [not [1=1 and not [all]]];", 2);
         bad(4, LAKE + "rain 1 when not [not [not [^not 1=1]]];");
+        bad(4, LAKE + "rain min(min(min(min(min(min(min^(1,2),3),4),5),6),7),8) when all;");
         bad(4, LAKE + "rain max(1,min(2,(max(3,(min(4,^(5)))))) when all;");
         good(LAKE + "rain (1)+(2)+(3)+(4)+(5)+(6)+(7)+(8) when not 1=2 and not 1=2 and [all] and [all]"
             + " and not 1=2 and not 1=2 and not 1=2 and not 1=2;", 2);

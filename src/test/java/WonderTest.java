@@ -142,6 +142,10 @@ public final class WonderTest {
         Checks.same("need(5), not its DAY", x.need(5), NONE);
         Checks.same("need(6)", x.need(6), NONE);
         Checks.same("need(-1)", x.need(-1), NONE);
+        NineBoards y = Checks.lake("lake spread 1 holds 99 has 21;gate a plain boards 0 width 1;village v gate a;"
+            + "thing v gate a from 1 to 1 days 0 to 9 worth 1;thing v gate a from 0 to 0 days 0 to 9 worth 1;");
+        Checks.same("20 boards", y.need(0), 20);
+        Checks.same("21 can't be", y.need(1), NONE);
         x.act(0);
         Checks.same("need(0), no more its DAY", x.need(0), NONE);
         Checks.same("need(5), its DAY", x.need(5), 0);
@@ -169,6 +173,19 @@ public final class WonderTest {
         Checks.same("one GATE, unlike boards", y.both(0, 2), 0);
         Checks.same("what is left", y.both(0, 3), 1);
         Checks.same("more than is left", y.both(0, 4), 0);
+        String two = "lake spread 1 holds 99 has 62;gate a plain boards 4 width 1;gate b plain boards 3 width 1;"
+            + "village v gate a;thing v gate a from 42 to 42 days 0 to 9 worth 1;"
+            + "thing v gate a from 43 to 43 days 0 to 9 worth 1;thing v gate b from 20 to 20 days 0 to 9 worth 1;"
+            + "thing v gate b from 19 to 19 days 0 to 9 worth 1;thing v gate b from 18 to 18 days 0 to 9 worth 1;";
+        NineBoards z = Checks.lake(two);
+        Checks.same("20 boards", z.both(0, 2), 1);
+        Checks.same("19 boards", z.both(1, 3), 1);
+        Checks.same("none for less", z.both(0, 3), 0);
+        NineBoards joined = Checks.lake("lake spread 1 holds 999 has 22;gate a plain boards 4 width 1;"
+            + "gate b plain boards 3 width 1;village v gate a;thing v gate a from 2 to 2 days 0 to 9 worth 1;"
+            + "thing v gate b from 2 to 2 days 0 to 9 worth 1;thing v gate b from 3 to 3 days 0 to 9 worth 1;join a b;");
+        Checks.same("joined ones, 20 boards", joined.both(0, 1), 1);
+        Checks.same("joined ones, unlike boards", joined.both(0, 2), 0);
     }
 
     private static void until() {
@@ -182,7 +199,7 @@ public final class WonderTest {
         Checks.same("far", x.until(Integer.MAX_VALUE, false), 0);
         Checks.same("far", x.until(Integer.MIN_VALUE, true), 0);
         Checks.same("nothing went by", x.has(4), 0);
-        NineBoards y = Checks.lake("lake spread 1 holds 999 has 0;rain 1 when all;");
+        NineBoards y = Checks.lake("lake spread 1 holds 9999 has 0;rain 1 when all;");
         Checks.same("99 DAYS on", y.until(98, true), 99);
         Checks.same("100 DAYS on", y.until(99, true), NONE);
         y.rest(5);
@@ -210,6 +227,12 @@ public final class WonderTest {
             + "gate b plain boards 20 width 1;village v gate a;village w gate b;");
         // 0: then 0, 1. 2: then 0, 1.
         Checks.same("rows(2) at the edges", y.rows(2), 4);
+        // v and w are at an edge, u never: 0, 2 by 0, 1 by 0, 1, 2.
+        NineBoards u = Checks.lake("lake spread 1 holds 99 has 20;gate a plain boards 0 width 1;"
+            + "gate b plain boards 20 width 1;gate c plain boards 5 width 1;village v gate a;village w gate b;"
+            + "village u gate c;");
+        // 0 0: 3; 0 1: 2; 2 0: 2; 2 1: 2.
+        Checks.same("rows(3) of three", u.rows(3), 9);
         NineBoards z = Checks.lake("lake spread 1 holds 99 has 20;gate a plain boards 0 width 1;"
             + "gate b plain boards 20 width 1;village v gate a;village w gate b;join a b;");
         Checks.same("joined at both edges", z.rows(12), 1);
