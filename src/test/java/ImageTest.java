@@ -17,22 +17,6 @@ public final class ImageTest {
         Checks.finish("ImageTest");
     }
 
-    private static int[] image(int day, int water, int latest, int... boards) {
-        int[] data = new int[6 + boards.length];
-        data[0] = day >> 8;
-        data[1] = day & 255;
-        data[2] = water >> 8;
-        data[3] = water & 255;
-        data[4] = latest;
-        System.arraycopy(boards, 0, data, 5, boards.length);
-        int c = 67;
-        for (int k = 0; k < data.length - 1; k++) {
-            c = (3 * c + data[k]) % 251;
-        }
-        data[data.length - 1] = c;
-        return data;
-    }
-
     private static void told(NineBoards x, int[] want) {
         for (int k = 0; k < want.length; k++) {
             Checks.same("octet(" + k + ")", x.octet(k), want[k]);
@@ -44,26 +28,26 @@ public final class ImageTest {
         NineBoards x = Checks.lake(LAKE);
         Checks.same("ahead of any", x.octet(0), NONE);
         Checks.same("image()", x.image(), 9);
-        told(x, image(0, 600, 0, 5, 20, 0));
+        told(x, Checks.image(0, 600, 0, 5, 20, 0));
         Checks.same("octet(-1)", x.octet(-1), NONE);
         Checks.same("octet(far)", x.octet(Integer.MAX_VALUE), NONE);
         Checks.same("octet(far)", x.octet(Integer.MIN_VALUE), NONE);
         x.act(1);
-        told(x, image(0, 600, 0, 5, 20, 0));
+        told(x, Checks.image(0, 600, 0, 5, 20, 0));
         Checks.same("image()", x.image(), 9);
-        told(x, image(1, x.has(5), 1, 5, 19, 0));
+        told(x, Checks.image(1, x.has(5), 1, 5, 19, 0));
         Checks.put(x, "lake spread 1 holds 1 has 1;");
         x.lake();
-        told(x, image(1, 0, 1, 5, 19, 0));
+        told(x, Checks.image(1, 0, 1, 5, 19, 0));
         Checks.same("a shorter one", x.image(), 6);
-        told(x, image(0, 1, 0));
+        told(x, Checks.image(0, 1, 0));
     }
 
     private static void taken() {
         NineBoards x = Checks.lake(LAKE);
         x.act(1);
         x.act(2);
-        Checks.put(x, image(300, 513, 1, 7, 8, 9));
+        Checks.put(x, Checks.image(300, 513, 1, 7, 8, 9));
         Checks.holds("on()", x.on());
         int[] has = {3, 2, 1, 2, 300, 513, 513, 1, 0};
         for (int k = 0; k < has.length; k++) {
@@ -91,10 +75,10 @@ public final class ImageTest {
 
     private static void edges() {
         NineBoards x = Checks.lake(LAKE);
-        Checks.put(x, image(999, 700, 2, 20, 0, 20));
+        Checks.put(x, Checks.image(999, 700, 2, 20, 0, 20));
         Checks.holds("most", x.on());
         Checks.same("DAY 999", x.act(0), NONE);
-        Checks.put(x, image(0, 0, 0, 0, 0, 0));
+        Checks.put(x, Checks.image(0, 0, 0, 0, 0, 0));
         Checks.holds("least", x.on());
         Checks.same("water", x.has(5), 0);
     }
@@ -103,13 +87,13 @@ public final class ImageTest {
         NineBoards x = Checks.lake(LAKE);
         x.act(1);
         int water = x.has(5);
-        int[] check = image(5, 6, 1, 1, 2, 3);
+        int[] check = Checks.image(5, 6, 1, 1, 2, 3);
         check[8] = (check[8] + 1) % 256;
-        int[] more = image(5, 6, 1, 1, 2, 3);
+        int[] more = Checks.image(5, 6, 1, 1, 2, 3);
         more[8] += 251 <= 255 - more[8] ? 251 : 1;
-        int[][] bad = {image(1000, 6, 1, 1, 2, 3), image(65535, 6, 1, 1, 2, 3), image(5, 701, 1, 1, 2, 3),
-            image(5, 6, 3, 1, 2, 3), image(5, 6, 1, 21, 2, 3), image(5, 6, 1, 1, 2, 21), image(5, 6, 1, 1, 255, 2),
-            image(5, 6, 1, 1, 2), image(5, 6, 1, 1, 2, 3, 4), check, more, {}, {67}};
+        int[][] bad = {Checks.image(1000, 6, 1, 1, 2, 3), Checks.image(65535, 6, 1, 1, 2, 3), Checks.image(5, 701, 1, 1, 2, 3),
+            Checks.image(5, 6, 3, 1, 2, 3), Checks.image(5, 6, 1, 21, 2, 3), Checks.image(5, 6, 1, 1, 2, 21), Checks.image(5, 6, 1, 1, 255, 2),
+            Checks.image(5, 6, 1, 1, 2), Checks.image(5, 6, 1, 1, 2, 3, 4), check, more, {}, {67}};
         for (int[] data : bad) {
             Checks.put(x, data);
             Checks.holds("on() of none", !x.on());

@@ -20,23 +20,14 @@ public final class NightTest {
         Checks.finish("NightTest");
     }
 
-    private static int[] seen(int... flows) {
-        int[] data = new int[2 * flows.length];
-        for (int g = 0; g < flows.length; g++) {
-            data[2 * g] = flows[g] >> 8;
-            data[2 * g + 1] = flows[g] & 255;
-        }
-        return data;
-    }
-
     private static void thief(NineBoards x, int want, int... flows) {
-        Checks.put(x, seen(flows));
+        Checks.put(x, Checks.seen(flows));
         Checks.same("thief()", x.thief(), want);
         Checks.same("the tape went", x.feed(0, 0, 0, 0, 0), 20);
     }
 
     private static void beaver(NineBoards x, int want, int... flows) {
-        Checks.put(x, seen(flows));
+        Checks.put(x, Checks.seen(flows));
         Checks.same("beaver()", x.beaver(), want);
         Checks.same("the tape went", x.feed(0, 0, 0, 0, 0), 20);
     }

@@ -29,20 +29,12 @@ public final class TextTest {
             Checks.same("new has(" + k + ")", x.has(k), 0);
         }
         Checks.same("spread 1", x.weather(0, 0, false), 0);
-        Checks.put(x, 0, 0, 0, 1, 0, check(0, 0, 0, 1, 0));
+        Checks.put(x, Checks.image(0, 1, 0));
         Checks.holds("it holds 1", x.on());
         Checks.same("LEVEL by spread 1", x.has(6), 1);
-        Checks.put(x, 0, 0, 0, 2, 0, check(0, 0, 0, 2, 0));
+        Checks.put(x, Checks.image(0, 2, 0));
         Checks.holds("it holds no 2", !x.on());
         Checks.same("a DAY without GATES", x.act(0), 1);
-    }
-
-    private static int check(int... ahead) {
-        int c = 67;
-        for (int b : ahead) {
-            c = (3 * c + b) % 251;
-        }
-        return c;
     }
 
     private static void tape() {
@@ -74,159 +66,140 @@ public final class TextTest {
         Checks.same("zero bytes", x.fault(0), 1);
     }
 
-    private static void good(String text, int statements) {
-        NineBoards x = new NineBoards();
-        Checks.put(x, text);
-        Checks.same("lake() of " + text, x.lake(), statements);
-        Checks.same("fault(0) of " + text, x.fault(0), 0);
-        Checks.same("fault(1) of " + text, x.fault(1), NineBoards.NONE);
-    }
-
-    /** The first byte with the fault stands behind the ^. */
-    private static void bad(int kind, String marked) {
-        int place = marked.indexOf('^');
-        String text = marked.substring(0, place) + marked.substring(place + 1);
-        NineBoards x = new NineBoards();
-        Checks.put(x, text);
-        Checks.same("lake() of " + text, x.lake(), NineBoards.NONE);
-        Checks.same("fault(0) of " + text, x.fault(0), kind);
-        Checks.same("fault(1) of " + text, x.fault(1), place);
-    }
-
     private static void goodTexts() {
-        good(LAKE, 1);
-        good(" \n lake\nspread 0999 holds 9999 has 9999 ; \n ", 1);
-        good("lake spread 1 holds 1 has 0;", 1);
-        good(GATE + "gate abcdef leaks 1 boards 0 width 99;gate h leaks 99 boards 20 width 1;", 4);
-        good(LAKE + "gate a steps 1 boards 0 width 1;gate b steps 9 boards 0 width 1;join b a;", 4);
-        good(LAKE + "gate a frozen 0 to 0 boards 0 width 1;gate b frozen 999 to 999 boards 0 width 1;", 3);
-        good(VILLAGE + "thing v gate g from 0 to 0 days 0 to 0 worth 1;", 4);
-        good(VILLAGE + "thing v gate g from 9999 to 9999 days 999 to 999 worth 99;", 4);
-        good(LAKE + "chapel 0 loss 0;bank 9999 loss 99;chapel 9999 loss 99;bank 0 loss 0;", 5);
-        good(LAKE + "rain 9999 when all;air min(1,max(day,level))when not[water=0]and 1<2 or(1)>2;", 3);
-        good(LAKE + "chapel 1 loss 1;".repeat(59), 60);
+        Checks.good(LAKE);
+        Checks.good(" \n lake\nspread 0999 holds 9999 has 9999 ; \n ");
+        Checks.good("lake spread 1 holds 1 has 0;");
+        Checks.good(GATE + "gate abcdef leaks 1 boards 0 width 99;gate h leaks 99 boards 20 width 1;");
+        Checks.good(LAKE + "gate a steps 1 boards 0 width 1;gate b steps 9 boards 0 width 1;join b a;");
+        Checks.good(LAKE + "gate a frozen 0 to 0 boards 0 width 1;gate b frozen 999 to 999 boards 0 width 1;");
+        Checks.good(VILLAGE + "thing v gate g from 0 to 0 days 0 to 0 worth 1;");
+        Checks.good(VILLAGE + "thing v gate g from 9999 to 9999 days 999 to 999 worth 99;");
+        Checks.good(LAKE + "chapel 0 loss 0;bank 9999 loss 99;chapel 9999 loss 99;bank 0 loss 0;");
+        Checks.good(LAKE + "rain 9999 when all;air min(1,max(day,level))when not[water=0]and 1<2 or(1)>2;");
+        Checks.good(LAKE + "chapel 1 loss 1;".repeat(59));
     }
 
     private static void textsThatDoNotGoOn() {
-        bad(1, "^");
-        bad(1, " \n ^");
-        bad(1, "^;");
-        bad(1, "^gate g plain boards 1 width 1;");
-        bad(1, "^Lake spread 1 holds 5 has 0;");
-        bad(1, "lake ^spr");
-        bad(1, "lake ^spreads 1 holds 5 has 0;");
-        bad(1, "lake^\tspread 1 holds 5 has 0;");
-        bad(1, "lake spread ^holds 5 has 0;");
-        bad(1, "lake spread ^-1 holds 5 has 0;");
-        bad(1, "lake spread 1 holds 5 has 0^");
-        bad(1, "lake spread 1 holds 5 has 0 \n^");
-        bad(1, LAKE + "^;");
-        bad(1, LAKE + "^lake spread 1 holds 5 has 0;");
-        bad(1, LAKE + "^spread");
-        bad(1, LAKE + "^12345");
-        bad(1, LAKE + "gate ^village plain boards 1 width 1;");
-        bad(1, LAKE + "gate ^max plain boards 1 width 1;");
-        bad(1, LAKE + "gate abcdef^g plain boards 1 width 1;");
-        bad(1, LAKE + "gate spread^x plain boards 1 width 1;");
-        bad(1, LAKE + "gate ^5 plain boards 1 width 1;");
-        bad(1, LAKE + "gate a ^round boards 1 width 1;");
-        bad(1, LAKE + "gate a plain ^width 1;");
-        bad(1, LAKE + "gate a plain boards 1 width 1^");
-        bad(1, LAKE + "gate a plain boards 1 width 1 ^gate");
-        bad(1, LAKE + "gate a frozen 1 ^2 boards 1 width 1;");
-        bad(1, VILLAGE + "thing v gate g from 1 to 2 days 1 to 2 ^;");
-        bad(1, LAKE + "chapel 1^;");
-        bad(1, LAKE + "bank 1 loss ^all;");
-        bad(1, LAKE + "rain ^when all;");
-        bad(1, LAKE + "rain 1 ^;");
-        bad(1, LAKE + "rain 1 when ^;");
-        bad(1, LAKE + "rain 1 when 1 ^;");
-        bad(1, LAKE + "rain 1 when 1 <^= 2;");
-        bad(1, LAKE + "rain 1 when all ^all;");
-        bad(1, LAKE + "rain 1 when (1 ^< 2);");
-        bad(1, LAKE + "rain 1 when [1 < 2^;");
-        bad(1, LAKE + "rain 1 when [1 < 2^);");
-        bad(1, LAKE + "rain min ^1 when all;");
-        bad(1, LAKE + "rain min(1^) when all;");
-        bad(1, LAKE + "rain max(1,2^,3) when all;");
-        bad(1, LAKE + "rain 1+ ^when all;");
-        bad(1, LAKE + "rain ^-1 when all;");
-        bad(1, LAKE + "rain 1234^5 when all;");
-        bad(1, LAKE + "rain ^all when all;");
-        bad(1, LAKE + "rain ^g when all;");
-        bad(1, LAKE + "rain 1 when not ^and all;");
+        Checks.bad(1, "^");
+        Checks.bad(1, " \n ^");
+        Checks.bad(1, "^;");
+        Checks.bad(1, "^gate g plain boards 1 width 1;");
+        Checks.bad(1, "^Lake spread 1 holds 5 has 0;");
+        Checks.bad(1, "lake ^spr");
+        Checks.bad(1, "lake ^spreads 1 holds 5 has 0;");
+        Checks.bad(1, "lake^\tspread 1 holds 5 has 0;");
+        Checks.bad(1, "lake spread ^holds 5 has 0;");
+        Checks.bad(1, "lake spread ^-1 holds 5 has 0;");
+        Checks.bad(1, "lake spread 1 holds 5 has 0^");
+        Checks.bad(1, "lake spread 1 holds 5 has 0 \n^");
+        Checks.bad(1, LAKE + "^;");
+        Checks.bad(1, LAKE + "^lake spread 1 holds 5 has 0;");
+        Checks.bad(1, LAKE + "^spread");
+        Checks.bad(1, LAKE + "^12345");
+        Checks.bad(1, LAKE + "gate ^village plain boards 1 width 1;");
+        Checks.bad(1, LAKE + "gate ^max plain boards 1 width 1;");
+        Checks.bad(1, LAKE + "gate abcdef^g plain boards 1 width 1;");
+        Checks.bad(1, LAKE + "gate spread^x plain boards 1 width 1;");
+        Checks.bad(1, LAKE + "gate ^5 plain boards 1 width 1;");
+        Checks.bad(1, LAKE + "gate a ^round boards 1 width 1;");
+        Checks.bad(1, LAKE + "gate a plain ^width 1;");
+        Checks.bad(1, LAKE + "gate a plain boards 1 width 1^");
+        Checks.bad(1, LAKE + "gate a plain boards 1 width 1 ^gate");
+        Checks.bad(1, LAKE + "gate a frozen 1 ^2 boards 1 width 1;");
+        Checks.bad(1, VILLAGE + "thing v gate g from 1 to 2 days 1 to 2 ^;");
+        Checks.bad(1, LAKE + "chapel 1^;");
+        Checks.bad(1, LAKE + "bank 1 loss ^all;");
+        Checks.bad(1, LAKE + "rain ^when all;");
+        Checks.bad(1, LAKE + "rain 1 ^;");
+        Checks.bad(1, LAKE + "rain 1 when ^;");
+        Checks.bad(1, LAKE + "rain 1 when 1 ^;");
+        Checks.bad(1, LAKE + "rain 1 when 1 <^= 2;");
+        Checks.bad(1, LAKE + "rain 1 when all ^all;");
+        Checks.bad(1, LAKE + "rain 1 when (1 ^< 2);");
+        Checks.bad(1, LAKE + "rain 1 when [1 < 2^;");
+        Checks.bad(1, LAKE + "rain 1 when [1 < 2^);");
+        Checks.bad(1, LAKE + "rain min ^1 when all;");
+        Checks.bad(1, LAKE + "rain min(1^) when all;");
+        Checks.bad(1, LAKE + "rain max(1,2^,3) when all;");
+        Checks.bad(1, LAKE + "rain 1+ ^when all;");
+        Checks.bad(1, LAKE + "rain ^-1 when all;");
+        Checks.bad(1, LAKE + "rain 1234^5 when all;");
+        Checks.bad(1, LAKE + "rain ^all when all;");
+        Checks.bad(1, LAKE + "rain ^g when all;");
+        Checks.bad(1, LAKE + "rain 1 when not ^and all;");
     }
 
     private static void wordsAndNumbersSideBySide() {
-        bad(1, "lake spread^1 holds 5 has 0;");
-        bad(1, "lake spread 1^holds 5 has 0;");
-        bad(1, "^lakespread 1 holds 5 has 0;");
-        bad(1, LAKE + "rain 1^when all;");
-        bad(1, LAKE + "rain day when day^1;");
-        bad(2, "lake spread ^1000holds 5 has 0;");
-        bad(1, "lake spread 1234^56 holds 5 has 0;");
-        bad(1, "lake spread 0000^1 holds 5 has 0;");
-        good("lake\nspread\n1\nholds\n5\nhas\n0\n;", 1);
+        Checks.bad(1, "lake spread^1 holds 5 has 0;");
+        Checks.bad(1, "lake spread 1^holds 5 has 0;");
+        Checks.bad(1, "^lakespread 1 holds 5 has 0;");
+        Checks.bad(1, LAKE + "rain 1^when all;");
+        Checks.bad(1, LAKE + "rain day when day^1;");
+        Checks.bad(2, "lake spread ^1000holds 5 has 0;");
+        Checks.bad(1, "lake spread 1234^56 holds 5 has 0;");
+        Checks.bad(1, "lake spread 0000^1 holds 5 has 0;");
+        Checks.good("lake\nspread\n1\nholds\n5\nhas\n0\n;");
     }
 
     private static void numbersThatCannotBe() {
-        bad(2, "lake spread ^0 holds 5 has 0;");
-        bad(2, "lake spread ^1000 holds 5 has 0;");
-        bad(2, "lake spread 1 holds ^0 has 0;");
-        bad(2, "lake spread 1 holds 5 has ^6;");
-        bad(2, LAKE + "gate a leaks ^0 boards 1 width 1;");
-        bad(2, LAKE + "gate a leaks ^100 boards 1 width 1;");
-        bad(2, LAKE + "gate a steps ^0 boards 1 width 1;");
-        bad(2, LAKE + "gate a steps ^10 boards 1 width 1;");
-        bad(2, LAKE + "gate a frozen ^1000 to 1000 boards 1 width 1;");
-        bad(2, LAKE + "gate a frozen 1 to ^1000 boards 1 width 1;");
-        bad(2, LAKE + "gate a frozen 5 to ^4 boards 1 width 1;");
-        bad(2, LAKE + "gate a plain boards ^21 width 1;");
-        bad(2, LAKE + "gate a plain boards 1 width ^0;");
-        bad(2, LAKE + "gate a plain boards 1 width ^100;");
-        bad(2, VILLAGE + "thing v gate g from 5 to ^4 days 1 to 2 worth 1;");
-        bad(2, VILLAGE + "thing v gate g from 5 to 5 days ^1000 to 2 worth 1;");
-        bad(2, VILLAGE + "thing v gate g from 5 to 5 days 3 to ^2 worth 1;");
-        bad(2, VILLAGE + "thing v gate g from 5 to 5 days 3 to ^1000 worth 1;");
-        bad(2, VILLAGE + "thing v gate g from 5 to 5 days 3 to 3 worth ^0;");
-        bad(2, VILLAGE + "thing v gate g from 5 to 5 days 3 to 3 worth ^100;");
-        bad(2, LAKE + "chapel 1 loss ^100;");
-        bad(2, LAKE + "bank 1 loss ^100;");
+        Checks.bad(2, "lake spread ^0 holds 5 has 0;");
+        Checks.bad(2, "lake spread ^1000 holds 5 has 0;");
+        Checks.bad(2, "lake spread 1 holds ^0 has 0;");
+        Checks.bad(2, "lake spread 1 holds 5 has ^6;");
+        Checks.bad(2, LAKE + "gate a leaks ^0 boards 1 width 1;");
+        Checks.bad(2, LAKE + "gate a leaks ^100 boards 1 width 1;");
+        Checks.bad(2, LAKE + "gate a steps ^0 boards 1 width 1;");
+        Checks.bad(2, LAKE + "gate a steps ^10 boards 1 width 1;");
+        Checks.bad(2, LAKE + "gate a frozen ^1000 to 1000 boards 1 width 1;");
+        Checks.bad(2, LAKE + "gate a frozen 1 to ^1000 boards 1 width 1;");
+        Checks.bad(2, LAKE + "gate a frozen 5 to ^4 boards 1 width 1;");
+        Checks.bad(2, LAKE + "gate a plain boards ^21 width 1;");
+        Checks.bad(2, LAKE + "gate a plain boards 1 width ^0;");
+        Checks.bad(2, LAKE + "gate a plain boards 1 width ^100;");
+        Checks.bad(2, VILLAGE + "thing v gate g from 5 to ^4 days 1 to 2 worth 1;");
+        Checks.bad(2, VILLAGE + "thing v gate g from 5 to 5 days ^1000 to 2 worth 1;");
+        Checks.bad(2, VILLAGE + "thing v gate g from 5 to 5 days 3 to ^2 worth 1;");
+        Checks.bad(2, VILLAGE + "thing v gate g from 5 to 5 days 3 to ^1000 worth 1;");
+        Checks.bad(2, VILLAGE + "thing v gate g from 5 to 5 days 3 to 3 worth ^0;");
+        Checks.bad(2, VILLAGE + "thing v gate g from 5 to 5 days 3 to 3 worth ^100;");
+        Checks.bad(2, LAKE + "chapel 1 loss ^100;");
+        Checks.bad(2, LAKE + "bank 1 loss ^100;");
     }
 
     private static void namesThatCannotBe() {
-        bad(3, GATE + "gate ^g plain boards 1 width 1;");
-        bad(3, VILLAGE + "village ^v gate g;");
-        bad(3, VILLAGE + "village ^g gate g;");
-        bad(3, VILLAGE + "gate ^v plain boards 1 width 1;");
-        bad(3, GATE + "village v gate ^h;");
-        bad(3, GATE + "village v gate ^v;");
-        bad(3, VILLAGE + "village w gate ^v;");
-        bad(3, VILLAGE + "thing ^g gate g from 1 to 2 days 1 to 2 worth 1;");
-        bad(3, VILLAGE + "thing v gate ^v from 1 to 2 days 1 to 2 worth 1;");
-        bad(3, GATE + "join g ^g;");
-        bad(3, GATE + "join ^h g;");
-        bad(3, GATE + "join g ^h;");
+        Checks.bad(3, GATE + "gate ^g plain boards 1 width 1;");
+        Checks.bad(3, VILLAGE + "village ^v gate g;");
+        Checks.bad(3, VILLAGE + "village ^g gate g;");
+        Checks.bad(3, VILLAGE + "gate ^v plain boards 1 width 1;");
+        Checks.bad(3, GATE + "village v gate ^h;");
+        Checks.bad(3, GATE + "village v gate ^v;");
+        Checks.bad(3, VILLAGE + "village w gate ^v;");
+        Checks.bad(3, VILLAGE + "thing ^g gate g from 1 to 2 days 1 to 2 worth 1;");
+        Checks.bad(3, VILLAGE + "thing v gate ^v from 1 to 2 days 1 to 2 worth 1;");
+        Checks.bad(3, GATE + "join g ^g;");
+        Checks.bad(3, GATE + "join ^h g;");
+        Checks.bad(3, GATE + "join g ^h;");
         String joined = GATE + "gate h plain boards 1 width 1;gate i plain boards 1 width 1;join g h;";
-        bad(3, joined + "join ^h i;");
-        bad(3, joined + "join i ^g;");
-        bad(3, LAKE + "village v gate ^g;gate g plain boards 1 width 1;");
+        Checks.bad(3, joined + "join ^h i;");
+        Checks.bad(3, joined + "join i ^g;");
+        Checks.bad(3, LAKE + "village v gate ^g;gate g plain boards 1 width 1;");
     }
 
     private static void tooDeep() {
-        good(LAKE + "rain ((((((1)))))) when ((((((1))))))=1;", 2);
-        bad(4, LAKE + "rain ((((((^(1))))))) when all;");
-        good(LAKE + "rain 1 when not not not not not not all and not not not not not not all;", 2);
-        bad(4, LAKE + "rain 1 when not not not not not not ^not all;");
-        good(LAKE + "rain 1 when [[[[[[all]]]]]];", 2);
-        bad(4, LAKE + "rain 1 when [[[[[[^[all]]]]]]];");
-        bad(4, LAKE + "rain 1 when not [not [not [min^(1,2)=1]]];");
-        good(LAKE + "rain 1 when not [not [not [1=1]]] and not [not [1=1 and not [all]]];", 2);
-        bad(4, LAKE + "rain 1 when not [not [not [^not 1=1]]];");
-        bad(4, LAKE + "rain min(min(min(min(min(min(min^(1,2),3),4),5),6),7),8) when all;");
-        bad(4, LAKE + "rain max(1,min(2,(max(3,(min(4,^(5)))))) when all;");
-        good(LAKE + "rain (1)+(2)+(3)+(4)+(5)+(6)+(7)+(8) when not 1=2 and not 1=2 and [all] and [all]"
-            + " and not 1=2 and not 1=2 and not 1=2 and not 1=2;", 2);
+        Checks.good(LAKE + "rain ((((((1)))))) when ((((((1))))))=1;");
+        Checks.bad(4, LAKE + "rain ((((((^(1))))))) when all;");
+        Checks.good(LAKE + "rain 1 when not not not not not not all and not not not not not not all;");
+        Checks.bad(4, LAKE + "rain 1 when not not not not not not ^not all;");
+        Checks.good(LAKE + "rain 1 when [[[[[[all]]]]]];");
+        Checks.bad(4, LAKE + "rain 1 when [[[[[[^[all]]]]]]];");
+        Checks.bad(4, LAKE + "rain 1 when not [not [not [min^(1,2)=1]]];");
+        Checks.good(LAKE + "rain 1 when not [not [not [1=1]]] and not [not [1=1 and not [all]]];");
+        Checks.bad(4, LAKE + "rain 1 when not [not [not [^not 1=1]]];");
+        Checks.bad(4, LAKE + "rain min(min(min(min(min(min(min^(1,2),3),4),5),6),7),8) when all;");
+        Checks.bad(4, LAKE + "rain max(1,min(2,(max(3,(min(4,^(5)))))) when all;");
+        Checks.good(LAKE + "rain (1)+(2)+(3)+(4)+(5)+(6)+(7)+(8) when not 1=2 and not 1=2 and [all] and [all]"
+            + " and not 1=2 and not 1=2 and not 1=2 and not 1=2;");
     }
 
     private static void tooMany() {
@@ -234,28 +207,28 @@ public final class TextTest {
         for (char c = 'a'; c <= 'i'; c++) {
             gates.append("gate ").append(c).append(" plain boards 1 width 1;");
         }
-        good(gates.toString(), 10);
-        bad(5, gates + " ^gate a");
-        bad(1, gates + " ^gates");
+        Checks.good(gates.toString());
+        Checks.bad(5, gates + " ^gate a");
+        Checks.bad(1, gates + " ^gates");
         StringBuilder villages = new StringBuilder(GATE);
         for (char c = 'a'; c <= 'f'; c++) {
             villages.append("village ").append(c).append(" gate g;");
         }
-        good(villages.toString(), 8);
-        bad(5, villages + "^village 5");
+        Checks.good(villages.toString());
+        Checks.bad(5, villages + "^village 5");
         String thing = "thing v gate g from 1 to 2 days 1 to 2 worth 1;";
-        good(VILLAGE + thing.repeat(16), 19);
-        bad(5, VILLAGE + thing.repeat(16) + "^" + thing);
+        Checks.good(VILLAGE + thing.repeat(16));
+        Checks.bad(5, VILLAGE + thing.repeat(16) + "^" + thing);
         String rules = "rain 1 when all;air 2 when all;".repeat(4);
-        good(LAKE + rules, 9);
-        bad(5, LAKE + rules + "^rain");
-        bad(5, LAKE + rules + "\n^air 1 when all;");
+        Checks.good(LAKE + rules);
+        Checks.bad(5, LAKE + rules + "^rain");
+        Checks.bad(5, LAKE + rules + "\n^air 1 when all;");
         String sixty = LAKE + "bank 1 loss 1;".repeat(59);
-        good(sixty + " \n", 60);
-        bad(5, sixty + " ^bank 1 loss 1;");
-        bad(5, sixty + "^;");
-        bad(5, sixty + " ^Q");
-        bad(5, sixty + "^7");
+        Checks.good(sixty + " \n");
+        Checks.bad(5, sixty + " ^bank 1 loss 1;");
+        Checks.bad(5, sixty + "^;");
+        Checks.bad(5, sixty + " ^Q");
+        Checks.bad(5, sixty + "^7");
     }
 
     private static void faultsChangeNothing() {
