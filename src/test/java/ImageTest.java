@@ -91,8 +91,10 @@ public final class ImageTest {
         check[8] = (check[8] + 1) % 256;
         int[] more = Checks.image(5, 6, 1, 1, 2, 3);
         more[8] += 251 <= 255 - more[8] ? 251 : 1;
-        int[][] bad = {Checks.image(1000, 6, 1, 1, 2, 3), Checks.image(65535, 6, 1, 1, 2, 3), Checks.image(5, 701, 1, 1, 2, 3),
-            Checks.image(5, 6, 3, 1, 2, 3), Checks.image(5, 6, 1, 21, 2, 3), Checks.image(5, 6, 1, 1, 2, 21), Checks.image(5, 6, 1, 1, 255, 2),
+        int[][] bad = {Checks.image(1000, 6, 1, 1, 2, 3), Checks.image(65535, 6, 1, 1, 2, 3),
+            Checks.image(5, 701, 1, 1, 2, 3),
+            Checks.image(5, 6, 3, 1, 2, 3), Checks.image(5, 6, 1, 21, 2, 3), Checks.image(5, 6, 1, 1, 2, 21),
+            Checks.image(5, 6, 1, 1, 255, 2),
             Checks.image(5, 6, 1, 1, 2), Checks.image(5, 6, 1, 1, 2, 3, 4), check, more, {}, {67}};
         for (int[] data : bad) {
             Checks.put(x, data);

@@ -26,7 +26,8 @@ public final class LawsTest {
         int[] worth = {2, 4, 0, 0, 7, 1, 10, 40, 0, 3, 5};
         for (int flow = 0; flow < worth.length; flow++) {
             if (worth[flow] > 0) {
-                text.append("thing v gate a from " + flow + " to " + flow + " days 0 to 999 worth " + worth[flow] + ";");
+                text.append("thing v gate a from " + flow + " to " + flow + " days 0 to 999 worth " + worth[flow]
+                    + ";");
             }
         }
         return Checks.lake(text.toString());

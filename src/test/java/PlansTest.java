@@ -183,7 +183,8 @@ public final class PlansTest {
             + "join a b;join c d;rain 30 when all;village v gate a;");
         Checks.same("joined to one without boards", x.first(9, 9), 2);
         NineBoards y = Checks.lake("lake spread 1 holds 20 has 20;gate a plain boards 19 width 1;"
-            + "gate b plain boards 20 width 1;gate c plain boards 20 width 2;join b c;rain 30 when all;village v gate a;");
+            + "gate b plain boards 20 width 1;gate c plain boards 20 width 2;join b c;rain 30 when all;"
+            + "village v gate a;");
         y.act(1);
         y.undo();
         // a: 2 flow; b: 1 and 1 and 2.

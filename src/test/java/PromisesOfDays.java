@@ -72,8 +72,10 @@ final class PromisesOfDays {
     private static void gate() {
         Document.section("Promise 8: gate");
         Document.says("Of a GATE: 0 KIND (0 plain, 1 leaks, 2 steps, 3 frozen), 1 boards, 2 width, 3 to which it is joined (NONE without),");
-        NineBoards x = Checks.lake("lake spread 1 holds 9 has 9;gate a plain boards 0 width 1;gate b leaks 1 boards 20 width 99;"
-            + "gate c steps 1 boards 1 width 2;gate d frozen 0 to 0 boards 19 width 98;gate e plain boards 5 width 5;join d a;join b c;");
+        NineBoards x = Checks.lake("lake spread 1 holds 9 has 9;gate a plain boards 0 width 1;"
+            + "gate b leaks 1 boards 20 width 99;"
+            + "gate c steps 1 boards 1 width 2;gate d frozen 0 to 0 boards 19 width 98;"
+            + "gate e plain boards 5 width 5;join d a;join b c;");
         int[][] want = {{0, 0, 1, 3}, {1, 20, 99, 2}, {2, 1, 2, 1}, {3, 19, 98, 0}, {0, 5, 5, NONE}};
         for (int g = 0; g < want.length; g++) {
             for (int k = 0; k < 4; k++) {
@@ -85,9 +87,11 @@ final class PromisesOfDays {
         Checks.same("today", y.gate(0, 4), 5);
         y.act(1);
         Checks.same("with a board less", y.gate(0, 4), 6);
-        NineBoards frozen = TermsOfDays.at("lake spread 1 holds 9 has 9;gate a frozen 999 to 999 boards 4 width 1;", 998, 9, 0, 4);
+        NineBoards frozen = TermsOfDays.at("lake spread 1 holds 9 has 9;gate a frozen 999 to 999 boards 4 width 1;",
+            998, 9, 0, 4);
         Checks.same("on DAY 998", frozen.gate(0, 4), 5);
-        NineBoards last = TermsOfDays.at("lake spread 1 holds 9 has 9;gate a frozen 999 to 999 boards 4 width 1;", 999, 9, 0, 4);
+        NineBoards last = TermsOfDays.at("lake spread 1 holds 9 has 9;gate a frozen 999 to 999 boards 4 width 1;", 999,
+            9, 0, 4);
         Checks.same("on DAY 999", last.gate(0, 4), 0);
         Stays.behind("gate(0, 4)", 7, z -> z.gate(0, 4));
         Document.says("5 the latest FLOW (0 ahead of any).");
@@ -126,7 +130,8 @@ final class PromisesOfDays {
         Checks.same("5 and 6", x.stream(0), 11);
         x.undo();
         Checks.same("5 again", x.stream(0), 5);
-        NineBoards most = Checks.lake("lake spread 1 holds 9999 has 9999;gate a plain boards 0 width 99;rain 9999 when all;");
+        NineBoards most = Checks.lake("lake spread 1 holds 9999 has 9999;gate a plain boards 0 width 99;"
+            + "rain 9999 when all;");
         for (int k = 0; k < 11; k++) {
             most.rest(99);
         }
@@ -142,7 +147,8 @@ final class PromisesOfDays {
     private static void all() {
         Document.section("Promise 10: all");
         Document.says("All water so far that 0 was there at first, 1 rained, 2 was SPILT, 3 went down streams, 4 into the air;");
-        NineBoards x = Checks.lake("lake spread 1 holds 20 has 13;gate a plain boards 8 width 1;gate b plain boards 12 width 1;"
+        NineBoards x = Checks.lake("lake spread 1 holds 20 has 13;gate a plain boards 8 width 1;"
+            + "gate b plain boards 12 width 1;"
             + "rain 15 when all;air 4 when all;");
         long[][] want = {{13, 0, 0, 0, 0}, {13, 15, 2, 6, 4}, {13, 30, 2, 18, 8}};
         for (int day = 0; day < 3; day++) {
@@ -175,7 +181,8 @@ final class PromisesOfDays {
         NineBoards x = Checks.lake(TermsOfText.full().replace("village vf gate a", "village vf gate i"));
         Checks.same("the first GATE", x.village(0, 0), 0);
         Checks.same("the last GATE", x.village(5, 0), 8);
-        NineBoards y = Checks.lake(ONE + "thing v gate a from 5 to 5 days 0 to 9 worth 7;chapel 9 loss 0;bank 8 loss 3;");
+        NineBoards y = Checks.lake(ONE + "thing v gate a from 5 to 5 days 0 to 9 worth 7;chapel 9 loss 0;"
+            + "bank 8 loss 3;");
         int[] acts = {0, 1, 2};
         int[] lately = {4, -3, 4};
         int sum = 0;
@@ -254,7 +261,8 @@ final class PromisesOfDays {
     private static void served() {
         Document.section("Promise 12: served");
         Document.says("On how many DAYS so far a THING was served;");
-        NineBoards x = Checks.lake(ONE + "thing v gate a from 5 to 5 days 1 to 3 worth 1;thing v gate a from 4 to 6 days 0 to 999 worth 1;");
+        NineBoards x = Checks.lake(ONE + "thing v gate a from 5 to 5 days 1 to 3 worth 1;"
+            + "thing v gate a from 4 to 6 days 0 to 999 worth 1;");
         int[] acts = {0, 0, 1, 2, 0};
         int[] first = {0, 1, 1, 2, 2};
         for (int day = 0; day < acts.length; day++) {
@@ -265,7 +273,8 @@ final class PromisesOfDays {
         x.undo();
         x.undo();
         Checks.same("undone", x.served(0), 1);
-        NineBoards most = Checks.lake(ONE + TermsOfText.times(16, "thing v gate a from 0 to 9999 days 0 to 999 worth 1;"));
+        NineBoards most = Checks.lake(ONE + TermsOfText.times(16,
+            "thing v gate a from 0 to 9999 days 0 to 999 worth 1;"));
         Checks.same("the last THING, none so far", most.served(15), 0);
         for (int k = 0; k < 11; k++) {
             most.rest(99);
@@ -337,7 +346,8 @@ final class PromisesOfDays {
             Checks.same("no ACT", x.has(7), 0);
             Checks.same("boards", x.gate(0, 1), 4);
         }
-        int[][] rows = {{900, 99, 99, 999}, {901, 99, 98, 999}, {900, 98, 98, 998}, {998, 1, 1, 999}, {998, 2, 1, 999}, {998, 99, 1, 999},
+        int[][] rows = {{900, 99, 99, 999}, {901, 99, 98, 999}, {900, 98, 98, 998}, {998, 1, 1, 999}, {998, 2, 1, 999},
+            {998, 99, 1, 999},
             {999, 1, 0, 999}, {999, 99, 0, 999}};
         for (int[] r : rows) {
             NineBoards x = TermsOfDays.at(ONE, r[0], 9, 1, 4);

@@ -6,7 +6,8 @@ final class PromisesOfPlans {
     private static final int NOTHING = NineBoards.NOTHING;
     private static final int[] FAR = {Integer.MIN_VALUE, Integer.MAX_VALUE};
     // Six VILLAGES at one GATE, whose flow is 10 less its boards on every DAY.
-    private static final String SIX = "lake spread 1 holds 99 has 10;gate z plain boards 5 width 1;rain 10-water when all;"
+    private static final String SIX = "lake spread 1 holds 99 has 10;gate z plain boards 5 width 1;"
+        + "rain 10-water when all;"
         + TermsOfText.times(6, "village # gate z;");
 
     private PromisesOfPlans() {
@@ -26,14 +27,16 @@ final class PromisesOfPlans {
     }
 
     private static String thing(char village, int flow, int day, int worth) {
-        return "thing " + village + " gate z from " + flow + " to " + flow + " days " + day + " to " + day + " worth " + worth + ";";
+        return "thing " + village + " gate z from " + flow + " to " + flow + " days " + day + " to " + day + " worth "
+            + worth + ";";
     }
 
     private static void selfish() {
         Document.section("Promise 23: selfish");
         Document.says("EACH FOR ITSELF, n DAYS: the ACT of day k (what k, 0 .. n - 1), or of VILLAGE v what it gets (what 10 and v).");
         // On its DAY each VILLAGE gets something for 6, 5, 4 in turn: lift, set, set is not allowed.
-        NineBoards x = Checks.lake(SIX + thing('a', 6, 0, 7) + thing('b', 5, 1, 8) + thing('c', 6, 2, 9) + thing('d', 5, 3, 10)
+        NineBoards x = Checks.lake(SIX + thing('a', 6, 0, 7) + thing('b', 5, 1, 8) + thing('c', 6, 2, 9)
+            + thing('d', 5, 3, 10)
             + thing('e', 6, 4, 11) + thing('f', 5, 5, 12));
         int[] acts = {1, 2, 1, 2, 1, 2};
         for (int n = 1; n <= 6; n++) {
@@ -45,7 +48,8 @@ final class PromisesOfPlans {
             }
             Checks.same("no day " + n, x.selfish(n, n), NOTHING);
         }
-        NineBoards late = TermsOfDays.at(SIX + thing('e', 6, 4, 11) + thing('f', 4, 5, 1) + thing('a', 6, 6, 3), 4, 10, 0, 5);
+        NineBoards late = TermsOfDays.at(SIX + thing('e', 6, 4, 11) + thing('f', 4, 5, 1) + thing('a', 6, 6, 3), 4, 10,
+            0, 5);
         Checks.same("from now on", late.selfish(3, 0), 1);
         Checks.same("f has to rest or set: 5, not 4", late.selfish(3, 1), 0);
         Checks.same("a gets what it is", late.selfish(3, 10), 3);
@@ -56,7 +60,8 @@ final class PromisesOfPlans {
 
     private static void selfishRefused() {
         Document.says("NOTHING when there is none such, or n DAYS would go beyond 999.");
-        int[][] none = {{0, 0}, {-1, 0}, {7, 0}, {7, 10}, {FAR[0], 0}, {FAR[1], 0}, {1, -1}, {1, 1}, {2, 2}, {6, 6}, {6, 7}, {6, 8}, {6, 9},
+        int[][] none = {{0, 0}, {-1, 0}, {7, 0}, {7, 10}, {FAR[0], 0}, {FAR[1], 0}, {1, -1}, {1, 1}, {2, 2}, {6, 6},
+            {6, 7}, {6, 8}, {6, 9},
             {6, 12}, {1, 12}, {1, FAR[0]}, {1, FAR[1]}, {1, FAR[0] + 10}, {0, 10}};
         for (int[] n : none) {
             Stays.behind("selfish(" + n[0] + ", " + n[1] + ")", NOTHING, z -> z.selfish(n[0], n[1]));
@@ -94,7 +99,8 @@ final class PromisesOfPlans {
         Checks.same("each for itself a lifts", x.selfish(1, 0), 1);
         Stays.behind("common(6, 0)", 0, z -> z.common(6, 0));
         Document.says("NOTHING likewise.");
-        int[][] none = {{0, 0}, {0, 9}, {-1, 9}, {7, 0}, {7, 9}, {7, 10}, {FAR[0], 9}, {FAR[1], 9}, {1, -1}, {1, 1}, {2, 2}, {6, 6}, {6, 7},
+        int[][] none = {{0, 0}, {0, 9}, {-1, 9}, {7, 0}, {7, 9}, {7, 10}, {FAR[0], 9}, {FAR[1], 9}, {1, -1}, {1, 1},
+            {2, 2}, {6, 6}, {6, 7},
             {6, 8}, {6, 12}, {1, 12}, {1, FAR[0]}, {1, FAR[1]}};
         for (int[] n : none) {
             Stays.behind("common(" + n[0] + ", " + n[1] + ")", NOTHING, z -> z.common(n[0], n[1]));
@@ -125,7 +131,8 @@ final class PromisesOfPlans {
         Checks.same("all of it", sum, 12);
         Stays.behind("share(1, 0)", 2, z -> z.share(1, 0));
         Document.says("NOTHING likewise.");
-        int[][] none = {{0, 0}, {-1, 0}, {7, 0}, {FAR[0], 0}, {FAR[1], 0}, {1, -1}, {1, 2}, {1, 10}, {1, FAR[0]}, {1, FAR[1]}};
+        int[][] none = {{0, 0}, {-1, 0}, {7, 0}, {FAR[0], 0}, {FAR[1], 0}, {1, -1}, {1, 2}, {1, 10}, {1, FAR[0]},
+            {1, FAR[1]}};
         for (int[] n : none) {
             Stays.behind("share(" + n[0] + ", " + n[1] + ")", NOTHING, z -> z.share(n[0], n[1]));
         }
@@ -137,7 +144,8 @@ final class PromisesOfPlans {
         }
     }
 
-    private static final String FLOOD = "lake spread 1 holds 10 has 10;gate a plain boards 9 width 1;gate b plain boards 9 width 3;";
+    private static final String FLOOD = "lake spread 1 holds 10 has 10;gate a plain boards 9 width 1;"
+        + "gate b plain boards 9 width 3;";
 
     private static void first() {
         Document.section("Promise 26: first");
@@ -153,7 +161,8 @@ final class PromisesOfPlans {
         Checks.same("on DAY 998", last.first(9999, 100), 1);
         NineBoards full = Checks.lake(TermsOfText.full());
         Checks.same("of nine, dry", full.first(9999, 100), 0);
-        String nine = "lake spread 1 holds 10 has 10;" + TermsOfText.times(8, "gate # plain boards 20 width 1;") + "gate i plain boards 10 width 1;";
+        String nine = "lake spread 1 holds 10 has 10;" + TermsOfText.times(8, "gate # plain boards 20 width 1;")
+            + "gate i plain boards 10 width 1;";
         Checks.same("the 9th", Checks.lake(nine).first(9999, 100), 8);
         Stays.behind("first(50, 50)", 0, z -> z.first(50, 50));
     }
@@ -166,7 +175,8 @@ final class PromisesOfPlans {
         Checks.same("joined, one each", TermsOfDays.at(FLOOD + "join a b;", 0, 10, 0, 1, 1).first(5, 5), 0);
         Checks.same("without GATES", new NineBoards().first(5, 5), NONE);
         Stays.onTheLastDay("first(5, 5)", NONE, z -> z.first(5, 5));
-        int[][] none = {{-1, 50}, {10000, 50}, {50, -1}, {50, 101}, {FAR[0], 50}, {FAR[1], 50}, {50, FAR[0]}, {50, FAR[1]}};
+        int[][] none = {{-1, 50}, {10000, 50}, {50, -1}, {50, 101}, {FAR[0], 50}, {FAR[1], 50}, {50, FAR[0]},
+            {50, FAR[1]}};
         for (int[] n : none) {
             Stays.behind("first(" + n[0] + ", " + n[1] + ")", NONE, z -> z.first(n[0], n[1]));
         }
@@ -218,7 +228,8 @@ final class PromisesOfPlans {
         Checks.same("on DAY 999", last.steal(0), 4);
     }
 
-    private static final String NINE = "lake spread 5 holds 9999 has 9000;" + TermsOfText.times(8, "gate # plain boards 20 width 1;")
+    private static final String NINE = "lake spread 5 holds 9999 has 9000;"
+        + TermsOfText.times(8, "gate # plain boards 20 width 1;")
         + "gate i plain boards 9 width 1;";
 
     private static int[] nine(int last) {
@@ -308,11 +319,13 @@ final class PromisesOfPlans {
             Checks.put(x, Checks.seen(seen));
             Checks.same("beaver() at " + g + ", and none flows", x.beaver(), g);
         }
-        NineBoards last = Checks.lake("lake spread 1 holds 99 has 30;" + TermsOfText.times(8, "gate # plain boards 20 width 1;")
+        NineBoards last = Checks.lake("lake spread 1 holds 99 has 30;"
+            + TermsOfText.times(8, "gate # plain boards 20 width 1;")
             + "gate i plain boards 20 width 1;");
         Checks.put(last, Checks.seen(10, 10, 10, 0, 0, 0, 0, 0, 0));
         Checks.same("none", last.beaver(), NONE);
-        NineBoards ninth = Checks.lake("lake spread 2 holds 99 has 30;" + TermsOfText.times(8, "gate # plain boards 14 width 1;")
+        NineBoards ninth = Checks.lake("lake spread 2 holds 99 has 30;"
+            + TermsOfText.times(8, "gate # plain boards 14 width 1;")
             + "gate i plain boards 14 width 1;");
         Checks.put(ninth, Checks.seen(1, 1, 1, 1, 1, 1, 1, 1, 0));
         Checks.same("the 9th", ninth.beaver(), 8);

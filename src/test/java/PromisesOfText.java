@@ -68,7 +68,8 @@ final class PromisesOfText {
                 java.util.Arrays.fill(data, 32);
                 data[place] = b;
                 NineBoards y = new NineBoards();
-                y.feed(Checks.four(data, 0), Checks.four(data, 4), Checks.four(data, 8), Checks.four(data, 12), Checks.four(data, 16));
+                y.feed(Checks.four(data, 0), Checks.four(data, 4), Checks.four(data, 8), Checks.four(data, 12),
+                    Checks.four(data, 16));
                 y.lake();
                 Checks.same("the place of byte " + b, y.fault(1), place);
             }
@@ -180,8 +181,10 @@ final class PromisesOfText {
         // More than a LEVEL of 9999 ahead of what is spilt: even there no bank of an earlier text is flooded.
         String gates = "lake spread 1 holds 9999 has 9999;gate a plain boards 4 width 1;village v gate a;"
             + "rain 9999 when all;";
-        String other = "lake spread 7 holds 99 has 99;gate b frozen 0 to 999 boards 9 width 9;gate c leaks 9 boards 9 width 9;"
-            + "gate d steps 9 boards 9 width 9;join b c;village w gate b;village u gate c;thing w gate b from 0 to 99 days 0 to 99 worth 9;"
+        String other = "lake spread 7 holds 99 has 99;gate b frozen 0 to 999 boards 9 width 9;"
+            + "gate c leaks 9 boards 9 width 9;"
+            + "gate d steps 9 boards 9 width 9;join b c;village w gate b;village u gate c;"
+            + "thing w gate b from 0 to 99 days 0 to 99 worth 9;"
             + "chapel 99 loss 9;bank 0 loss 9;rain 99 when all;air 99 when all;";
         NineBoards want = Checks.lake(gates);
         want.act(0);
@@ -212,7 +215,8 @@ final class PromisesOfText {
 
     private static void lakeWithAFault() {
         Document.says("NONE with a FAULT (all stays;");
-        String[] texts = {"lake spread 1 holds 5 has 5;gate", "lake spread 1 holds 5 has 6;", "lake spread 9 holds 9 has 9;join a a;",
+        String[] texts = {"lake spread 1 holds 5 has 5;gate", "lake spread 1 holds 5 has 6;",
+            "lake spread 9 holds 9 has 9;join a a;",
             LAKE + "rain 1 when not not not not not not not all;", LAKE + TermsOfText.times(9, "rain 1 when all;"),
             TermsOfText.full() + ";", "", "Q"};
         int[] kinds = {1, 2, 3, 4, 5, 5, 1, 1};
@@ -318,7 +322,8 @@ final class PromisesOfText {
         Document.says("Letter k (0 .. 5) of the NAME of a GATE (kind 0), a VILLAGE (1): 1 .. 26;");
         NineBoards x = Checks.lake(LAKE + "gate azbycx plain boards 1 width 1;gate zzzzzz plain boards 1 width 1;"
             + "gate a plain boards 1 width 1;village zaaaaz gate a;village q gate a;");
-        int[][] names = {{1, 26, 2, 25, 3, 24}, {26, 26, 26, 26, 26, 26}, {1, 0, 0, 0, 0, 0}, {26, 1, 1, 1, 1, 26}, {17, 0, 0, 0, 0, 0}};
+        int[][] names = {{1, 26, 2, 25, 3, 24}, {26, 26, 26, 26, 26, 26}, {1, 0, 0, 0, 0, 0}, {26, 1, 1, 1, 1, 26},
+            {17, 0, 0, 0, 0, 0}};
         for (int n = 0; n < names.length; n++) {
             for (int k = 0; k < 6; k++) {
                 Checks.same("letter " + k + " of " + n, x.letter(n < 3 ? 0 : 1, n < 3 ? n : n - 3, k), names[n][k]);
@@ -334,7 +339,8 @@ final class PromisesOfText {
             Checks.same("behind " + length, y.letter(0, 0, length), length < 6 ? 0 : NONE);
         }
         Document.says("NONE when there is none such.");
-        int[][] none = {{0, 0, 6}, {0, 0, -1}, {1, 0, 6}, {1, 0, -1}, {0, 3, 0}, {0, -1, 0}, {1, 2, 0}, {1, -1, 0}, {2, 0, 0}, {-1, 0, 0},
+        int[][] none = {{0, 0, 6}, {0, 0, -1}, {1, 0, 6}, {1, 0, -1}, {0, 3, 0}, {0, -1, 0}, {1, 2, 0}, {1, -1, 0},
+            {2, 0, 0}, {-1, 0, 0},
             {FAR[0], 0, 0}, {FAR[1], 0, 0}, {0, FAR[0], 0}, {0, FAR[1], 0}, {0, 0, FAR[0]}, {0, 0, FAR[1]}};
         for (int[] n : none) {
             Checks.same("letter(" + n[0] + ", " + n[1] + ", " + n[2] + ")", x.letter(n[0], n[1], n[2]), NONE);

@@ -59,7 +59,8 @@ final class PromisesOfYears {
         Checks.same("of all VILLAGES together", two.years(3, 2, 10, 0), (11 - 4 - 4) * 20);
         NineBoards most = Checks.lake("lake spread 1 holds 9999 has 9999;rain 9999 when all;");
         Checks.same("the most that can be spilt", most.years(0, 20, 100, 1), 9999L * 2000);
-        String six = "lake spread 1 holds 9 has 9;gate z plain boards 5 width 1;" + TermsOfText.times(6, "village # gate z;");
+        String six = "lake spread 1 holds 9 has 9;gate z plain boards 5 width 1;"
+            + TermsOfText.times(6, "village # gate z;");
         NineBoards least = Checks.lake(six + "chapel 9999 loss 99;bank 0 loss 99;rain 9 when all;");
         Checks.same("the least WORTH", least.years(0, 20, 100, 0), -198L * 6 * 2000);
         NineBoards after = Checks.lake(Years.LAKE);
@@ -70,8 +71,10 @@ final class PromisesOfYears {
 
     private static void yearsRefused() {
         Document.says("NOTHING when something can't be, or on DAY 999.");
-        int[][] none = {{-1, 1, 1, 0}, {4, 1, 1, 0}, {0, 0, 1, 0}, {0, 21, 1, 0}, {0, 1, 0, 0}, {0, 1, 101, 0}, {0, 1, 1, -1}, {0, 1, 1, 2},
-            {FAR[0], 1, 1, 0}, {FAR[1], 1, 1, 0}, {0, FAR[0], 1, 0}, {0, FAR[1], 1, 0}, {0, 1, FAR[0], 0}, {0, 1, FAR[1], 0}, {0, 1, 1, FAR[0]},
+        int[][] none = {{-1, 1, 1, 0}, {4, 1, 1, 0}, {0, 0, 1, 0}, {0, 21, 1, 0}, {0, 1, 0, 0}, {0, 1, 101, 0},
+            {0, 1, 1, -1}, {0, 1, 1, 2},
+            {FAR[0], 1, 1, 0}, {FAR[1], 1, 1, 0}, {0, FAR[0], 1, 0}, {0, FAR[1], 1, 0}, {0, 1, FAR[0], 0},
+            {0, 1, FAR[1], 0}, {0, 1, 1, FAR[0]},
             {0, 1, 1, FAR[1]}, {0, -1, 1, 0}, {0, 1, -1, 0}};
         for (int[] n : none) {
             String call = "years(" + n[0] + ", " + n[1] + ", " + n[2] + ", " + n[3] + ")";
@@ -105,7 +108,8 @@ final class PromisesOfYears {
         Document.says("AN IMAGE is written: how many bytes.");
         Checks.same("without GATES", new NineBoards().image(), 6);
         for (int n = 0; n <= 9; n++) {
-            NineBoards x = Checks.lake("lake spread 1 holds 9 has 9;" + TermsOfText.times(n, "gate # plain boards 1 width 1;"));
+            NineBoards x = Checks.lake("lake spread 1 holds 9 has 9;"
+                + TermsOfText.times(n, "gate # plain boards 1 width 1;"));
             Checks.same("with " + n + " GATES", x.image(), 6 + n);
             Checks.same("the last byte is there", x.octet(5 + n) >= 0 ? 1 : 0, 1);
             Checks.same("no more", x.octet(6 + n), NONE);
@@ -130,7 +134,8 @@ final class PromisesOfYears {
     private static void octet() {
         Document.section("Promise 33: octet");
         Document.says("Byte k of the latest image();");
-        NineBoards x = Checks.lake("lake spread 1 holds 999 has 700;gate a plain boards 20 width 1;gate b plain boards 0 width 1;village v gate a;");
+        NineBoards x = Checks.lake("lake spread 1 holds 999 has 700;gate a plain boards 20 width 1;"
+            + "gate b plain boards 0 width 1;village v gate a;");
         x.image();
         octets(x, Checks.image(0, 700, 0, 20, 0));
         x.act(1);
@@ -159,7 +164,8 @@ final class PromisesOfYears {
     private static void on() {
         Document.section("Promise 34: on");
         Document.says("The tape (it goes) is AN IMAGE: true, DAY, water, boards, the latest ACT are as it tells (nothing has flowed, rained, gone; no WORTH so far, no DAY can be undone; what was there at first is this water);");
-        int[][] rows = {{0, 0, 0, 0}, {999, 60, 2, 20}, {1, 1, 1, 1}, {255, 59, 0, 19}, {256, 31, 2, 7}, {998, 60, 1, 20}};
+        int[][] rows = {{0, 0, 0, 0}, {999, 60, 2, 20}, {1, 1, 1, 1}, {255, 59, 0, 19}, {256, 31, 2, 7},
+            {998, 60, 1, 20}};
         for (int[] r : rows) {
             NineBoards x = Stays.prepared();
             Checks.put(x, Checks.image(r[0], r[1], r[2], r[3], 20 - r[3], 3, 4));

@@ -34,7 +34,8 @@ final class TermsOfDays {
         Document.section("Terms");
         Document.says("II. LEVEL: floor(water / spread).");
         int[][] rows = {{1, 0, 0}, {1, 1, 1}, {1, 9999, 9999}, {10, 0, 0}, {10, 9, 0}, {10, 10, 1}, {10, 19, 1},
-            {10, 20, 2}, {10, 9999, 999}, {999, 998, 0}, {999, 999, 1}, {999, 9989, 9}, {999, 9990, 10}, {999, 9999, 10}};
+            {10, 20, 2}, {10, 9999, 999}, {999, 998, 0}, {999, 999, 1}, {999, 9989, 9}, {999, 9990, 10},
+            {999, 9999, 10}};
         for (int[] r : rows) {
             NineBoards x = Checks.lake("lake spread " + r[0] + " holds 9999 has " + r[1] + ";");
             Checks.same("LEVEL of " + r[1] + " by " + r[0], x.has(6), r[2]);
@@ -49,7 +50,8 @@ final class TermsOfDays {
         NineBoards x = Checks.lake(three);
         Checks.same("DAY 0 at first", x.has(4), 0);
         int[] acts = {1, 2, 1, 2, 0, 0, 1};
-        int[][] boards = {{4, 6, 7, 8}, {4, 7, 7, 8}, {4, 7, 6, 7}, {5, 7, 6, 7}, {5, 7, 6, 7}, {5, 7, 6, 7}, {4, 7, 6, 7}};
+        int[][] boards = {{4, 6, 7, 8}, {4, 7, 7, 8}, {4, 7, 6, 7}, {5, 7, 6, 7}, {5, 7, 6, 7}, {5, 7, 6, 7},
+            {4, 7, 6, 7}};
         for (int day = 0; day < acts.length; day++) {
             Checks.holds("ACT of DAY " + day, x.act(acts[day]) >= 0);
             for (int g = 0; g < 4; g++) {
@@ -65,7 +67,8 @@ final class TermsOfDays {
         NineBoards late = at(three, 998, 50, 0, 5, 6, 7, 8);
         Checks.holds("ACT of DAY 998", late.act(1) >= 0);
         Checks.same("998 modulo 3 is 2", late.gate(2, 1), 6);
-        NineBoards one = at("lake spread 1 holds 9 has 9;gate a plain boards 5 width 1;village v gate a;", 997, 9, 0, 5);
+        NineBoards one = at("lake spread 1 holds 9 has 9;gate a plain boards 5 width 1;village v gate a;", 997, 9, 0,
+            5);
         Checks.holds("ACT of the one VILLAGE", one.act(1) >= 0);
         Checks.holds("and on the next DAY", one.act(2) >= 0);
         Checks.same("its boards", one.gate(0, 1), 5);
@@ -79,7 +82,8 @@ final class TermsOfDays {
             NineBoards x = at(text, 0, 9, latest, a, b);
             Checks.same("bits", x.village(0, 4), bits);
             boolean may = (bits & 1 << act) != 0;
-            Checks.same("act(" + act + ") with " + a + ", " + b + " behind " + latest, x.act(act) == NONE ? 0 : 1, may ? 1 : 0);
+            Checks.same("act(" + act + ") with " + a + ", " + b + " behind " + latest, x.act(act) == NONE ? 0 : 1,
+                may ? 1 : 0);
             int by = !may || act == 0 ? 0 : act == 1 ? -1 : 1;
             Checks.same("boards", x.gate(0, 1), a + by);
             Checks.same("DAY", x.has(4), may ? 1 : 0);
@@ -137,7 +141,8 @@ final class TermsOfDays {
             + "gate c plain boards 0 width 1;"), 8, 2, 0);
         flows(Checks.lake("lake spread 1 holds 99 has 10;gate a plain boards 6 width 2;gate b plain boards 7 width 1;"
             + "gate c plain boards 0 width 1;"), 8, 2, 0);
-        flows(Checks.lake("lake spread 1 holds 99 has 10;gate a plain boards 0 width 1;gate b plain boards 0 width 1;"), 10, 0);
+        flows(Checks.lake("lake spread 1 holds 99 has 10;gate a plain boards 0 width 1;"
+            + "gate b plain boards 0 width 1;"), 10, 0);
         flows(Checks.lake("lake spread 1 holds 99 has 0;gate a plain boards 0 width 99;"), 0);
         flows(Checks.lake("lake spread 1 holds 9999 has 9999;gate a plain boards 0 width 99;"), 9999);
     }
@@ -196,7 +201,8 @@ final class TermsOfDays {
 
     private static void streams() {
         Document.says("It goes down its stream.");
-        NineBoards x = Checks.lake("lake spread 1 holds 99 has 10;gate a plain boards 8 width 1;gate b plain boards 9 width 3;");
+        NineBoards x = Checks.lake("lake spread 1 holds 99 has 10;gate a plain boards 8 width 1;"
+            + "gate b plain boards 9 width 3;");
         x.act(0);
         Checks.same("stream(0)", x.stream(0), 2);
         Checks.same("stream(1)", x.stream(1), 3);
@@ -333,7 +339,8 @@ final class TermsOfDays {
             + "thing v gate a from 0 to 0 days 0 to 0 worth 99;thing v gate a from 1 to 1 days 0 to 0 worth 99;");
         dry.act(0);
         Checks.same("a FLOW of 0 is within 0 .. 0", dry.village(0, 2), 99);
-        NineBoards all = Checks.lake("lake spread 1 holds 9 has 9;gate a plain boards 4 width 1;gate b plain boards 8 width 1;"
+        NineBoards all = Checks.lake("lake spread 1 holds 9 has 9;gate a plain boards 4 width 1;"
+            + "gate b plain boards 8 width 1;"
             + "village v gate a;" + TermsOfText.times(15, "thing v gate a from 5 to 5 days 0 to 0 worth 99;")
             + "thing v gate b from 1 to 1 days 0 to 0 worth 99;");
         all.act(0);
@@ -341,7 +348,8 @@ final class TermsOfDays {
     }
 
     private static int loss(String statements) {
-        NineBoards x = Checks.lake("lake spread 2 holds 20 has 11;gate a plain boards 20 width 1;village v gate a;village w gate a;"
+        NineBoards x = Checks.lake("lake spread 2 holds 20 has 11;gate a plain boards 20 width 1;village v gate a;"
+            + "village w gate a;"
             + statements);
         x.act(0);
         Checks.same("for all VILLAGES alike", x.village(0, 2), x.village(1, 2));

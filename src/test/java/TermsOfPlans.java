@@ -61,7 +61,7 @@ final class TermsOfPlans {
         selfish(patient, 2, 0, 2, 5);
         selfish(patient, 0, NOTHING);
         selfish(patient, 7, NOTHING, NOTHING, NOTHING, NOTHING, NOTHING, NOTHING, NOTHING, NOTHING);
-        // If v lifts (5), w sets it back (3, and 4 for v); if v rests (4, 3), w sets (9); if v sets (9 for w), w rests (9).
+        // If v lifts (5), w sets it back (3, and 4 for v); if v rests (4, 3), w sets (9); if v sets, w rests (9, 9).
         String two = LAKE + "village w gate a;" + thing('v', 6, "0 to 999", 5) + thing('v', 5, "0 to 999", 4)
             + thing('w', 5, "0 to 999", 3) + thing('w', 4, "0 to 999", 9);
         selfish(two, 1, 1, 5, 0);
@@ -112,7 +112,8 @@ final class TermsOfPlans {
         // v lifts for its 1; together they would set for b's worth.
         NineBoards x = Checks.lake("lake spread 1 holds 99 has 10;gate z plain boards 5 width 1;"
             + TermsOfText.times(villages, "village # gate z;") + "rain 10-water when all;"
-            + "thing a gate z from 6 to 6 days 0 to 0 worth 1;thing b gate z from 4 to 4 days 0 to 0 worth " + worth + ";");
+            + "thing a gate z from 6 to 6 days 0 to 0 worth 1;thing b gate z from 4 to 4 days 0 to 0 worth " + worth
+            + ";");
         int sum = 0;
         for (int v = 0; v < villages; v++) {
             Checks.same("share(1, " + v + ") of " + villages + " by " + worth, x.share(1, v), want[v]);
@@ -164,7 +165,8 @@ final class TermsOfPlans {
     private static void beforeAFlood() {
         Document.says("  FIRST BEFORE A FLOOD: it may rain so much more on this DAY, by odds of 100: of GATES with boards (joined: both) that by whose one board less (the joined one's, too; THE PEACE does not count) on this DAY, its VILLAGE resting, odds times what is SPILT with that rain and (100 - odds) times what is without, together, is least, the first of like ones.");
         // A board less at a: 5 are left; at b: 3. So 5 more are held anyhow, 6 by b alone.
-        String two = "lake spread 1 holds 10 has 10;gate a plain boards 9 width 1;gate b plain boards 9 width 3;village v gate a;";
+        String two = "lake spread 1 holds 10 has 10;gate a plain boards 9 width 1;gate b plain boards 9 width 3;"
+            + "village v gate a;";
         NineBoards x = Checks.lake(two);
         Checks.same("5 more", x.first(5, 100), 0);
         Checks.same("6 more", x.first(6, 100), 1);
@@ -209,7 +211,8 @@ final class TermsOfPlans {
 
     private static void liftedByNight() {
         Document.says("  SEEN AT DAWN are FLOWS of all GATES, that DAY's.");
-        String text = "lake spread 10 holds 999 has 100;gate a plain boards 5 width 2;gate b frozen 3 to 4 boards 8 width 1;"
+        String text = "lake spread 10 holds 999 has 100;gate a plain boards 5 width 2;"
+            + "gate b frozen 3 to 4 boards 8 width 1;"
             + "gate c leaks 3 boards 9 width 1;village v gate a;";
         Checks.same("on DAY 2", thief(TermsOfDays.at(text, 2, 100, 0, 5, 8, 9), 10, 2, 4), 512);
         Checks.same("on DAY 3 b is frozen, and its board tells nothing",
@@ -225,7 +228,8 @@ final class TermsOfPlans {
         Checks.same("the last board", thief(TermsOfDays.at(text, 2, 100, 0, 1, 8, 9), 20, 2, 4), 1);
         Checks.same("c's last board: it leaks no more", thief(TermsOfDays.at(text, 2, 100, 0, 5, 8, 1), 10, 2, 10), 4);
         Checks.same("none has boards", thief(TermsOfDays.at(text, 2, 100, 0, 0, 0, 0), 20, 10, 10), 512);
-        Checks.same("boards above the LEVEL", thief(TermsOfDays.at(text, 3, 100, 0, 11, 20, 20), 0, 0, 3), 512 + 1 + 2 + 4);
+        Checks.same("boards above the LEVEL", thief(TermsOfDays.at(text, 3, 100, 0, 11, 20, 20), 0, 0, 3), 512 + 1 + 2
+            + 4);
         String joined = text + "join a c;";
         Checks.same("joined: both bits", thief(TermsOfDays.at(joined, 2, 100, 0, 5, 8, 9), 12, 2, 5), 1 + 4);
         Checks.same("joined: not one alone", thief(TermsOfDays.at(joined, 2, 100, 0, 5, 8, 9), 12, 2, 4), 0);
@@ -290,7 +294,8 @@ final class TermsOfPlans {
             years(law, 5, 0, 40);
         }
         // Seed 8 draws a lift, seed 4 a set: the last that may be and the first that may not, told by what is spilt.
-        int[][] rows = {{0, 8, 1, 0}, {0, 8, 0, 0}, {1, 8, 1, 0}, {1, 8, 0, 0}, {2, 8, 2, 1}, {2, 8, 1, 1}, {2, 8, 20, 19},
+        int[][] rows = {{0, 8, 1, 0}, {0, 8, 0, 0}, {1, 8, 1, 0}, {1, 8, 0, 0}, {2, 8, 2, 1}, {2, 8, 1, 1},
+            {2, 8, 20, 19},
             {0, 4, 19, 20}, {0, 4, 20, 20}, {1, 4, 19, 20}, {1, 4, 20, 20}, {2, 4, 8, 9}, {2, 4, 9, 9}, {2, 4, 10, 10},
             {2, 4, 0, 1}, {2, 8, 0, 0}, {3, 8, 5, 5}, {3, 4, 5, 5}};
         for (int[] r : rows) {
@@ -373,8 +378,10 @@ final class TermsOfPlans {
 
     private static void images() {
         Document.says("  AN IMAGE: DAY, water (two bytes each, the higher first); the latest ACT that was no rest (0 without); for each GATE its boards; last a byte: all ahead from 67 on, c = (3 c + it) mod 251.");
-        String text = "lake spread 1 holds 9999 has 0;gate a plain boards 5 width 1;gate b plain boards 5 width 1;village v gate a;";
-        int[][] rows = {{0, 0, 0, 0, 0}, {999, 9999, 2, 20, 20}, {255, 255, 1, 1, 0}, {256, 256, 1, 0, 1}, {257, 511, 0, 19, 3},
+        String text = "lake spread 1 holds 9999 has 0;gate a plain boards 5 width 1;gate b plain boards 5 width 1;"
+            + "village v gate a;";
+        int[][] rows = {{0, 0, 0, 0, 0}, {999, 9999, 2, 20, 20}, {255, 255, 1, 1, 0}, {256, 256, 1, 0, 1},
+            {257, 511, 0, 19, 3},
             {767, 768, 2, 7, 8}, {3, 1000, 1, 20, 0}};
         for (int[] r : rows) {
             NineBoards x = TermsOfDays.at(text, r[0], r[1], r[2], r[3], r[4]);

@@ -221,7 +221,8 @@ final class TermsOfText {
         Checks.bad(1, GATE + "village abcxyz^a gate g;");
         Checks.bad(1, GATE + "village ^gate g;");
         // The letters are those of OWN WORDS, a to z; what stands just beside them is none.
-        for (char c : new char[] {'A', 'Z', '`', '{', '@', '[', '_', '-', '\'', (char) 0, (char) 128, (char) 225, (char) 255}) {
+        for (char c : new char[] {'A', 'Z', '`', '{', '@', '[', '_', '-', '\'', (char) 0, (char) 128, (char) 225,
+            (char) 255}) {
             Checks.bad(1, LAKE + "gate ^" + c + " plain boards 1 width 1;");
             Checks.bad(1, LAKE + "gate a^" + c + " plain boards 1 width 1;");
         }
@@ -498,7 +499,8 @@ final class TermsOfText {
     /** A text of single letters and digits but for its OWN WORDS, so that each cut tells where it ends too soon. */
     private static void endsTooSoon() {
         Document.says("at the text's length, if it ends too soon);");
-        String text = "lake spread 1 holds 5 has 0 ; gate g plain boards 1 width 1;gate h frozen 1 to 2 boards 1 width 1;"
+        String text = "lake spread 1 holds 5 has 0 ; gate g plain boards 1 width 1;"
+            + "gate h frozen 1 to 2 boards 1 width 1;"
             + "gate i leaks 1 boards 1 width 1;gate j steps 1 boards 1 width 1;join g h;village v gate g;"
             + "thing v gate g from 0 to 0 days 0 to 0 worth 1;chapel 1 loss 1;bank 1 loss 1;"
             + "rain min(1,max(day,(level+water)))*2 when not[all or 1<2]and 3>4 or 5=6;air 1 when all;";
@@ -587,7 +589,8 @@ final class TermsOfText {
         Checks.bad(5, rules + " ^rain");
         Checks.bad(5, rules + " ^air (((((((");
         Checks.bad(1, rules + " ^airs 1");
-        for (String other : new String[] {"bank 1 loss 1;", "lake", ";", "Q", "7", "12345", "abcdefgh", "\t", "\u0000", "\u00ff", "("}) {
+        for (String other : new String[] {"bank 1 loss 1;", "lake", ";", "Q", "7", "12345", "abcdefgh", "\t", "\u0000",
+            "\u00ff", "("}) {
             Checks.bad(5, LAKE + times(59, "bank 1 loss 1;") + " \n^" + other);
         }
         Checks.good(LAKE + times(59, "bank 1 loss 1;") + "\n");

@@ -183,7 +183,8 @@ public final class WonderTest {
         Checks.same("none for less", z.both(0, 3), 0);
         NineBoards joined = Checks.lake("lake spread 1 holds 999 has 22;gate a plain boards 4 width 1;"
             + "gate b plain boards 3 width 1;village v gate a;thing v gate a from 2 to 2 days 0 to 9 worth 1;"
-            + "thing v gate b from 2 to 2 days 0 to 9 worth 1;thing v gate b from 3 to 3 days 0 to 9 worth 1;join a b;");
+            + "thing v gate b from 2 to 2 days 0 to 9 worth 1;thing v gate b from 3 to 3 days 0 to 9 worth 1;"
+            + "join a b;");
         Checks.same("joined ones, 20 boards", joined.both(0, 1), 1);
         Checks.same("joined ones, unlike boards", joined.both(0, 2), 0);
     }

@@ -64,7 +64,8 @@ final class Years {
 
     /** The object's years are those that are due. */
     void same(NineBoards x, int law, int n, int days, int what) {
-        Checks.same("years(" + law + ", " + n + ", " + days + ", " + what + ") with " + boards + " boards on DAY " + day,
+        Checks.same("years(" + law + ", " + n + ", " + days + ", " + what + ") with " + boards + " boards on DAY "
+            + day,
             x.years(law, n, days, what), due(law, n, days, what));
     }
 }
