@@ -197,6 +197,12 @@ final class PromisesOfYears {
         Checks.put(seeds, Checks.image(3, 20, 0, 6));
         Checks.holds("on()", seeds.on());
         new Years(77, 3, 0, 6).same(seeds, 1, 1, 20, 1);
+        NineBoards nine = Checks.lake(TermsOfText.full());
+        Checks.put(nine, Checks.image(999, 5, 2, 20, 0, 1, 2, 3, 4, 5, 6, 20));
+        Checks.holds("with 9 GATES", nine.on());
+        Checks.same("the last one's boards", nine.gate(8, 1), 20);
+        Checks.put(nine, Checks.image(999, 5, 2, 20, 0, 1, 2, 3, 4, 5, 6, 21));
+        Checks.holds("21 at the last one", !nine.on());
         // What an image told goes on from there as it did where it was written.
         NineBoards x = Stays.prepared();
         int size = x.image();

@@ -160,6 +160,10 @@ final class TermsOfText {
         range(thing + "0 to 0 days 7 to ", 7, 999, " worth 1;");
         range(thing + "0 to 0 days 999 to ", 999, 999, " worth 1;");
         range(thing + "0 to 0 days 0 to 0 worth ", 1, 99, ";");
+        String full = LAKE + times(9, "gate # plain boards 1 width 1;") + times(6, "village v# gate a;");
+        Checks.good(full + "thing vf gate i from 0 to 0 days 0 to 0 worth 1;");
+        Checks.bad(3, full + "thing ^vg gate i from 0 to 0 days 0 to 0 worth 1;");
+        Checks.bad(3, full + "thing vf gate ^j from 0 to 0 days 0 to 0 worth 1;");
         String sixteen = VILLAGE + times(16, "thing v gate g from 0 to 0 days 0 to 0 worth 1;");
         Checks.good(sixteen);
         Checks.bad(5, sixteen + "^thing v gate g from 0 to 0 days 0 to 0 worth 1;");
