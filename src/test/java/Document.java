@@ -4,8 +4,8 @@ import java.nio.file.Files;
 import java.nio.file.Path;
 
 /**
- * The document's own words. A test says which of them it looks at; in the end none of the sections "Terms" and
- * "Promise .." may be left that no test has looked at, and none may have been said that the document does not say.
+ * The document's own words. A test says which of them it looks at; in the end none may be left, from the first line
+ * on, that no test has looked at, and none may have been said that the document does not say.
  */
 final class Document {
     private static final Path FILE = Path.of("../shared/DOC.md");
@@ -35,6 +35,11 @@ final class Document {
         to = at < 0 ? 0 : text.indexOf(HEAD, from);
     }
 
+    /** All that this section says. */
+    static String words() {
+        return text.substring(from, to);
+    }
+
     /** These words are looked at by the checks that follow. */
     static void says(String words) {
         closeLatest();
@@ -55,17 +60,17 @@ final class Document {
         latest = "";
     }
 
-    /** No word of the terms and of the promises may be left; each call's own line is looked at by LanguageTest. */
+    /** No word may be left; the titles are those by which the sections were found. */
     static void close() {
         closeLatest();
         Checks.about("");
+        Checks.holds("the first line", text.startsWith("# NineBoards\n" + HEAD));
         for (int at = text.indexOf(HEAD); at >= 0; at = text.indexOf(HEAD, at + 1)) {
             int start = at + HEAD.length();
             int end = text.indexOf(HEAD, start);
             int line = text.indexOf('\n', start);
-            String title = line < 0 ? "" : text.substring(start, line);
-            if (title.equals("Terms") || title.startsWith("Promise ")) {
-                nothingLeft(title, line, end);
+            if (line >= 0 && end >= 0) {
+                nothingLeft(text.substring(start, line), line, end);
             }
         }
         System.out.println(sentences + " sentences of the document looked at");
@@ -76,10 +81,7 @@ final class Document {
         for (int k = start; k < end; k++) {
             left.append(lookedAt[k] ? '\n' : text.charAt(k));
         }
-        String words = left.toString().replaceAll("```(text)?", "");
-        if (title.startsWith("Promise ")) {
-            words = words.replaceFirst("`[^`]*`:", "");
-        }
+        String words = left.toString().replaceAll("```(text|java)?", "");
         Checks.holds(title + ", nobody looks at: " + words.replaceAll("\\s+", " "), words.isBlank());
     }
 }

@@ -1,12 +1,14 @@
 import java.io.IOException;
 
-/** The document sentence by sentence, each with its edges: no word of its terms and promises may be left out. */
+/** The document sentence by sentence from its first line, each with its edges: no word of it may be left out. */
 public final class SentencesTest {
     private SentencesTest() {
     }
 
     public static void main(String[] args) throws IOException {
         Document.open();
+        WhatItIs.look();
+        TheFace.look();
         TermsOfText.look();
         TermsOfDays.look();
         TermsOfPlans.look();
@@ -15,6 +17,7 @@ public final class SentencesTest {
         PromisesOfWonder.look();
         PromisesOfPlans.look();
         PromisesOfYears.look();
+        NotPromised.look();
         Document.close();
         Checks.finish("SentencesTest");
     }

@@ -34,6 +34,17 @@ final class Stays {
         Looks.tape(call, x, TAPE);
     }
 
+    /** It asks alone: asked again it answers the same, and all stays, the seed, too. */
+    static void asking(String call, ToLongFunction<NineBoards> asked) {
+        NineBoards x = prepared();
+        List<Long> ahead = Looks.at(x);
+        long answer = asked.applyAsLong(x);
+        Checks.same(call + " again", asked.applyAsLong(x), answer);
+        Looks.stay(call, x, ahead);
+        Looks.tape(call, x, TAPE);
+        Checks.same("years behind " + call, x.years(1, 2, 30, 0), prepared().years(1, 2, 30, 0));
+    }
+
     /** On DAY 999 it answers so, and all stays. */
     static void onTheLastDay(String call, long want, ToLongFunction<NineBoards> asked) {
         NineBoards x = TermsOfDays.at(LAKE, 999, 40, 2, 3, 3, 8, 1);
