@@ -97,7 +97,7 @@ public final class ModelTest {
     }
 
     private void tell() {
-        String text = new Texts(random).lake();
+        String text = upTo(1) == 0 ? new Texts(random).lively() : new Texts(random).lake();
         if (upTo(2) == 0) {
             text = new Texts(random).spoiled(text);
         }

@@ -89,7 +89,47 @@ final class Texts {
         return text.toString();
     }
 
+    /** A lake in which one board more or less is worth something, to one village much, to another little. */
+    String lively() {
+        int spread = 1 + upTo(4);
+        int level = 4 + upTo(14);
+        add("lake", "spread", spread, "holds", spread * (level + upTo(8)) + upTo(spread - 1), "has", spread * level);
+        end();
+        for (int g = 1 + upTo(4); g >= 0; g--) {
+            gate(level, 2);
+        }
+        for (int v = 1 + upTo(upTo(2) == 0 ? 4 : 1); v >= 0; v--) {
+            String name = newName();
+            add("village", name, "gate", any(gates));
+            villages.add(name);
+            end();
+        }
+        for (int t = 5 + upTo(10); t >= 0; t--) {
+            int from = upTo(12);
+            add("thing", any(villages), "gate", any(gates), "from", from, "to", from + upTo(2), "days", upTo(3), "to",
+                upTo(3) == 0 ? 3 + upTo(9) : 999, "worth", 1 + upTo(upTo(1) == 0 ? 98 : 8));
+            end();
+        }
+        add("chapel", Math.max(0, level - upTo(4)), "loss", upTo(9));
+        end();
+        add("bank", level + upTo(6), "loss", upTo(9));
+        end();
+        add("rain", upTo(1) == 0 ? "" : "day *", upTo(3 * spread), "when");
+        test();
+        end();
+        add("rain", upTo(12 * spread), "when all");
+        end();
+        add("air", upTo(2), "when all");
+        end();
+        joins();
+        return text.toString();
+    }
+
     private void gate() {
+        gate(upTo(5) == 0 ? 20 : 10, upTo(3) == 0 ? 98 : 3);
+    }
+
+    private void gate(int boards, int width) {
         String name = newName();
         add("gate", name);
         gates.add(name);
@@ -108,7 +148,7 @@ final class Texts {
                 add("plain");
                 break;
         }
-        add("boards", upTo(5) == 0 ? 15 + upTo(5) : upTo(10), "width", 1 + (upTo(3) == 0 ? upTo(98) : upTo(3)));
+        add("boards", upTo(boards), "width", 1 + upTo(width));
         end();
     }
 

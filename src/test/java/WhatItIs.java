@@ -31,7 +31,8 @@ final class WhatItIs {
 
     private static void makeTexts() {
         for (int seed = 0; TEXTS.size() < LAKES; seed++) {
-            String text = new Texts(new Random(seed)).lake();
+            Texts texts = new Texts(new Random(seed));
+            String text = seed % 3 == 0 ? texts.lake() : texts.lively();
             NineBoards x = new NineBoards();
             if (text.length() <= 1600) {
                 Checks.put(x, text);
@@ -351,7 +352,8 @@ final class WhatItIs {
             Checks.holds("the same years by the same seed", java.util.Arrays.equals(some, again));
             x.act(1);
             x.act(2);
-            x.rest(20);
+            // All of these DAYS and those ahead are among the last 30.
+            x.rest(15);
             while (x.has(4) > y.has(4)) {
                 Checks.holds("undone", x.undo());
             }
